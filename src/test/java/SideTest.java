@@ -15,6 +15,7 @@ public final class SideTest {
         sheets(check);
         outOfTheBox(check);
         notOnASide(check);
+        planesThatAreNotOne(check);
         refused(check);
         check.end();
     }
@@ -124,6 +125,31 @@ public final class SideTest {
         x.plane(1, 0, 0, 0);
         check.due(11, "planes that are one are one", 0, () -> x.side(0, 5, 5, 1));
         check.thrown(11, "them and the box", NONE, () -> x.side(0, 1000, 5, 1));
+    }
+
+    /** Pairs that are alike in all but one respect; each pair's common point is on two planes. */
+    private static void planesThatAreNotOne(Check check) {
+        int[][] pairs = {
+            {0, 1, 0, 0, 0, 0, 1, 0}, {1, 0, 0, 0, 0, 0, 1, 0}, {1, 0, 0, 0, 0, 1, 0, 0},
+            {1, 1, 0, 0, 1, -1, 0, 0}, {0, 1, 2, 0, 0, 2, 1, 0}, {1, 0, 3, 0, -1, 0, 3, 0},
+            {1, 1, 1, 0, 1, 1, 2, 0}, {1000000, 999999, 0, 0, 999999, 999998, 0, 0},
+        };
+        for (int[] n : pairs) {
+            CarvedSolids x = new CarvedSolids();
+            x.plane(n[0], n[1], n[2], n[3]);
+            x.convex(1);
+            check.due(11, "one plane alone", 1, () -> x.side(0, 0, 0, 1));
+            x.plane(n[0], n[1], n[2], n[3]);
+            check.due(11, "with itself", 1, () -> x.side(0, 0, 0, 1));
+            x.plane(n[4], n[5], n[6], n[7]);
+            check.thrown(11, "with another", NONE, () -> x.side(0, 0, 0, 1));
+        }
+        CarvedSolids x = new CarvedSolids();
+        x.plane(1, 2, 3, 4);
+        x.plane(1, 2, 3, 5);
+        x.convex(1);
+        check.due(11, "planes side by side, the first", 1, () -> x.side(1, 0, 1, 1));
+        check.due(11, "planes side by side, the second", 0, () -> x.side(0, 1, 1, 1));
     }
 
     private static void refused(Check check) {
