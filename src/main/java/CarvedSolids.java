@@ -146,20 +146,18 @@ public final class CarvedSolids {
     private boolean isEntry(int i, int axis, int u, int v) {
         Plane plane = space.get(i);
         long rise = plane.factor(axis);
-        spot.placeOnAxis(axis, 0, u, v, 1);
-        long missing = -plane.excess(spot);
         if (rise == 0) {
-            if (missing == 0) {
-                throw new NoSuchElementException("the line lies in a plane");
-            }
+            // A line that lies in this plane is found out where it meets the box's: there it is on two planes.
             return false;
         }
+        spot.placeOnAxis(axis, 0, u, v, 1);
+        long missing = -plane.excess(spot);
         spot.placeOnAxis(axis, rise < 0 ? -missing : missing, u, v, Math.abs(rise));
         if (!space.isInBox(spot)) {
             return false;
         }
         if (space.onlyOneAt(spot) == Planes.NONE) {
-            throw new NoSuchElementException("the line meets two planes in one point");
+            throw new NoSuchElementException("the line has a point of the box on two planes");
         }
         return lookAtSpot(i) == (rise < 0 ? 1 : -1);
     }

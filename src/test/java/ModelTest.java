@@ -6,6 +6,10 @@ import java.util.Random;
 public final class ModelTest {
     private static final int RUNS = 300;
     private static final int CALLS = 200;
+    /** The document's own bound; every so many runs go up to it. */
+    private static final int MOST_CALLS = 512;
+    private static final int LONG_RUN_EVERY = 15;
+    private static final int CALLS_OF_A_STEP = 3;
     private static final int[] EDGES = {0, 1, -1, 999, -999, 1000, -1000, 1001, 1000000, -1000000, 1000001,
         -1000001, 1000000000, -1000000000, 1000000001, -1000000001, Integer.MAX_VALUE, Integer.MIN_VALUE};
 
@@ -14,6 +18,7 @@ public final class ModelTest {
     private final CarvedSolids program = new CarvedSolids();
     private final SlowModel model = new SlowModel();
     private final List<int[]> planes = new ArrayList<>();
+    private int calls = 0;
 
     private ModelTest(long seed, Check check) {
         dice = new Random(seed);
@@ -24,8 +29,9 @@ public final class ModelTest {
         Check check = new Check("ModelTest");
         for (int run = 0; run < RUNS; run++) {
             ModelTest test = new ModelTest(run, check);
-            for (int call = 0; call < CALLS; call++) {
-                test.step("run " + run + ", call " + call + ": ");
+            int most = run % LONG_RUN_EVERY == 0 ? MOST_CALLS : CALLS;
+            while (test.calls + CALLS_OF_A_STEP <= most) {
+                test.step("run " + run + ", call " + test.calls + ": ");
             }
         }
         check.end();
@@ -163,6 +169,7 @@ public final class ModelTest {
     }
 
     private void same(int promise, String what, Check.Call got, Check.Call want) {
+        calls++;
         check.dueText(promise, what, Check.told(want), Check.told(got));
     }
 }
