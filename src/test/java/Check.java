@@ -21,10 +21,14 @@ final class Check {
     }
 
     void dueText(int promise, String what, String want, String got) {
+        dueText("promise " + promise, what, want, got);
+    }
+
+    void dueText(String asker, String what, String want, String got) {
         done++;
         if (!want.equals(got)) {
             wrong++;
-            System.out.println("promise " + promise + ": " + what + " answered " + got + ", due is " + want);
+            System.out.println(asker + ": " + what + " answered " + got + ", due is " + want);
         }
     }
 
